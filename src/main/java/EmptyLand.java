@@ -775,7 +775,6 @@ public final class EmptyLand {
 
         void copyFrom(Row other) {
             size = Math.min(other.size, numbers.length);
-            bits = other.bits;
             System.arraycopy(other.numbers, 0, numbers, 0, size);
         }
     }

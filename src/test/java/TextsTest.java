@@ -336,6 +336,14 @@ final class TextsTest {
         due.is("YOUNG", x.people(0, 0), 99 + 19 - 19);
         due.is("GROWN", x.people(0, 1), 199 + 19 - 59);
         due.is("OLD", x.people(0, 2), 299 + 59 - 119);
+        EmptyLand even = still(0, 100, 1000, 10000);
+        for (int rate = 0; rate < 4; rate++) {
+            even.rate(rate, rate + 1);
+        }
+        even.years(1);
+        due.is("YOUNG, nothing cut", even.people(0, 0), 100 + 10 - 2);
+        due.is("GROWN, nothing cut", even.people(0, 1), 1000 + 2 - 30);
+        due.is("OLD, nothing cut", even.people(0, 2), 10000 + 30 - 400);
         // Who comes in (3) has children in (4).
         EmptyLand y = still(0, 0, 95, 0);
         y.rate(0, 1);

@@ -88,6 +88,9 @@ final class ThingsTest {
         x.thing(50, 0, 0, 2);
         x.thing(10, 0, 0, 4);
         due.is("wheels of 1", x.ofThing(0, 9), 3);
+        x.pace(3);
+        due.is("wheels of 1, way 3", x.ofThing(0, 9), 1);
+        x.pace(2);
         due.is("school of 1", x.ofThing(1, 9), 1);
         due.is("wheels of 2", x.ofThing(2, 9), 7);
         due.is("school of 4", x.ofThing(3, 9), 7);

@@ -110,6 +110,11 @@ final class VillagesTest {
         putAll(x, 0, 30, 127, 127, 127, 30, 128, 0, 0);
         due.is("128 of 8 bits is below 0", x.villages(0), 1);
         due.is("of 8 bits", x.people(5, 3), 381);
+        for (int wrong = 0; wrong < 4; wrong++) {
+            x.sheet(3, 16, 4);
+            x.put(3, wrong, -1);
+            due.is("number " + wrong + " isn't as told", x.villages(3), 0);
+        }
         x.sheet(1, 16, 0);
         due.is("of no numbers", x.villages(1), 0);
         x.sheet(1, 16, 3);
@@ -192,6 +197,13 @@ final class VillagesTest {
         due.is("no more", x.mend(0, 1, 0), 1);
         due.is("no more", x.mend(1, 0, 0), 0);
         due.is("whole", x.way(1, 0), 3);
+        due.is("whole, back", x.way(0, 1), 3);
+        x.mend(0, 1, 1);
+        x.mend(1, 2, 1);
+        x.mend(1, 0, 0);
+        due.is("not mended any more", x.way(0, 1) + x.way(1, 0), 6);
+        due.is("still mended", x.way(1, 2) + x.way(2, 1), 2);
+        due.is("never mended", x.way(0, 2) + x.way(2, 0), 12);
         due.areErrors("mend", Due.BEYOND,
             x.mend(1, 1, 1), x.mend(0, 3, 1), x.mend(3, 0, 1), x.mend(-1, 0, 1), x.mend(0, 1, 2), x.mend(0, 1, -1));
         due.is("unchanged", x.mend(0, 1, 0), 0);
