@@ -814,6 +814,8 @@ public final class EmptyLand {
         final int[] promises = new int[MOST_THINGS];
         // VILLAGES that a THING SERVES, as bits: years don't change them, so they are worked out ahead.
         final int[] serves = new int[MOST_THINGS];
+        // What each THING GIVES, asked once: the calls of a year stay at most eight deep so.
+        final int[] gives = new int[MOST_THINGS];
         final int[] rates = RATE_FIRST.clone();
         // null: a USE without a TEXT.
         final Rule[] rules = new Rule[USES];
@@ -829,11 +831,16 @@ public final class EmptyLand {
             System.arraycopy(other.places, 0, places, 0, places.length);
             System.arraycopy(other.people, 0, people, 0, people.length);
             System.arraycopy(other.mended, 0, mended, 0, mended.length);
-            System.arraycopy(other.things, 0, things, 0, things.length);
             System.arraycopy(other.promises, 0, promises, 0, promises.length);
             System.arraycopy(other.serves, 0, serves, 0, serves.length);
+            System.arraycopy(other.gives, 0, gives, 0, gives.length);
             System.arraycopy(other.rates, 0, rates, 0, rates.length);
-            System.arraycopy(other.rules, 0, rules, 0, rules.length);
+            for (int i = 0; i < things.length; i++) {
+                things[i] = other.things[i];
+            }
+            for (int use = 0; use < rules.length; use++) {
+                rules[use] = other.rules[use];
+            }
         }
 
         int addVillage(int place, int young, int grown, int old) {
@@ -857,6 +864,7 @@ public final class EmptyLand {
             }
             things[number] = one;
             promises[number] = -1;
+            gives[number] = one.giving();
             setOpen(number, true);
             thingCount++;
             survey();
@@ -968,7 +976,7 @@ public final class EmptyLand {
             int comfort = 0;
             for (int i = 0; i < thingCount; i++) {
                 if (isOpen(i) && (serves[i] >> village & 1) != 0) {
-                    comfort += things[i].giving();
+                    comfort += gives[i];
                 }
             }
             return comfort;
