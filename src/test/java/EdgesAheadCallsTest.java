@@ -14,7 +14,9 @@ final class EdgesAheadCallsTest {
         when();
         worth();
         worthOfAShutOne();
+        worthOfOneOfThree();
         promised();
+        promisedInYear0();
         edge();
         site();
         join();
@@ -108,6 +110,7 @@ final class EdgesAheadCallsTest {
         due.is("behind 2, by 2", x.rest(2), 2);
         due.is("behind 2, by 40", x.rest(40), 2);
         due.is("behind 2, by 1", x.rest(1), Due.NONE);
+        due.is("of eight", Lands.alike(8, 10).rest(1), 1);
         due.areErrors("n", Due.BEYOND, x.rest(0), x.rest(41), x.rest(-1), x.rest(Due.MIN), x.rest(Due.MAX));
     }
 
@@ -173,6 +176,24 @@ final class EdgesAheadCallsTest {
         due.is("it stays open", x.ofThing(0, 5), 1);
     }
 
+    private static void worthOfOneOfThree() {
+        due.says(29, "LEFT by n with a THING open now (though it is shut), less LEFT with it shut now.");
+        EmptyLand x = Lands.still(0, 100, 0, 0, 1500, 200, 0, 0, 3000, 400, 0, 0);
+        Due.text(x, GO, "(w=0)*100");
+        for (int village = 0; village < 3; village++) {
+            x.thing(village, 0, village == 1 ? 9999 : 0, 0);
+        }
+        x.open(0, 0);
+        // What lies ahead of other questions doesn't change what is open now.
+        due.is("1 is shut then", x.left(1, 2), 4);
+        due.is("2, while 0 is shut and 1 will be", x.worth(2, 1), 400 + 50 + 100 - 300);
+        due.is("0, while 2 is open", x.worth(0, 1), 100 + 400 + 100 - 550);
+        due.is("1, which the rule shuts", x.worth(1, 1), 0);
+        x.promise(1, 0);
+        due.is("1, which is promised", x.worth(1, 1), 200 + 400 + 50 - 550);
+        due.is("all stay", x.left(0, 2), 6);
+    }
+
     private static void promised() {
         due.says(30, "LEFT by n with a PROMISE up to a YEAR (0 to 199), less LEFT without one. BEYOND.");
         EmptyLand x = two();
@@ -197,6 +218,17 @@ final class EdgesAheadCallsTest {
         due.areErrors("THING", Due.BEYOND, x.promised(-1, 0, 0), x.promised(1, 0, 0));
         x.open(0, 0);
         due.is("a shut one stays shut", x.promised(0, 199, 1), 0);
+    }
+
+    private static void promisedInYear0() {
+        due.says(30, "with a PROMISE up to a YEAR (0 to 199), less LEFT without one.");
+        EmptyLand x = two();
+        Due.text(x, SHUT, "1");
+        due.is("up to 0, in YEAR 0", x.promised(0, 0, 1), 250 - 100);
+        due.is("up to 0, by 2: half of 250 come to VILLAGE 0", x.promised(0, 0, 2), 125);
+        due.is("up to 1, by 2", x.promised(0, 1, 2), 250);
+        x.promise(0, 0);
+        due.is("without one, though there is one", x.promised(0, 0, 1), 150);
     }
 
     private static void edge() {
@@ -302,6 +334,7 @@ final class EdgesAheadCallsTest {
             }
         }
         due.is("all are MENDED", x.road(0), Due.NONE);
+        due.is("of VILLAGES without PEOPLE", Lands.of(0, 0, 0, 0, 9, 0, 0, 0).road(3), 1);
         due.areErrors("n", Due.BEYOND, x.road(-1), x.road(41), x.road(Due.MIN), x.road(Due.MAX));
     }
 }

@@ -261,6 +261,13 @@ final class EdgesAheadTest {
         x.open(0, 0);
         x.open(2, 0);
         due.is("all shut", x.keep(9999, 1, 0), 0);
+        EmptyLand ten = three();
+        for (int i = 0; i < 10; i++) {
+            ten.thing(i % 3, 1, 0, 0);
+            ten.open(i, i > 6 ? 1 : 0);
+        }
+        due.is("the last three of ten", ten.keep(9999, 1, 0), 128 + 256 + 512);
+        due.is("the last two of ten", ten.keep(2, 1, 0), 128 + 256);
         due.is("of none", new EmptyLand().keep(0, 40, 1), 0);
     }
 

@@ -76,6 +76,10 @@ final class EdgesTextsTest {
         due.is("a 51st", x.feed('2', 1), Due.FULL);
         due.is("a TEXT of 50 bytes", x.text(GO), 1);
         due.is("all of it", x.law(GO, 0, 0, 0), 24 + 12);
+        // Each byte is a NAME or a sign of its own.
+        due.is("50 parts", Due.text(x, GO, "!s" + "+w".repeat(24)), 1);
+        due.is("all of them", x.law(GO, 0, 2, 0), 49);
+        due.is("25 to wait for", Due.text(x, GO, "w" + "+w*w".repeat(12) + "+"), -60);
     }
 
     /** Behind a start of a TEXT go on just these bytes of all 256. */

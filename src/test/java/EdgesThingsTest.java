@@ -11,6 +11,7 @@ final class EdgesThingsTest {
         promiseOfAThing();
         serves();
         servesFar();
+        servesWhatComesLater();
         usersOfOne();
         usersOfTwo();
         gives();
@@ -139,6 +140,27 @@ final class EdgesThingsTest {
         due.is("300 of 540", x.ofThing(2, 9), 5);
         x.pace(5);
         due.is("300 of 300", x.ofThing(2, 9), 7);
+    }
+
+    private static void servesWhatComesLater() {
+        due.says(0, "It SERVES a VILLAGE if WAY to that is its SPAN or less");
+        EmptyLand x = Lands.of(0, 1, 1, 1);
+        x.thing(10, 0, 0, 2);
+        x.village(1, 5, 0, 0);
+        x.village(2, 5, 0, 0);
+        due.is("by village()", x.ofThing(0, 9), 3);
+        x.sheet(0, 8, 4);
+        x.villages(0);
+        due.is("by villages()", x.ofThing(0, 9), 11);
+        x.seed(0);
+        x.made(4);
+        int near = 11;
+        for (int i = 4; i < 8; i++) {
+            near |= x.way(0, i) <= 2 ? 1 << i : 0;
+        }
+        due.is("by made()", x.ofThing(0, 9), near);
+        x.pace(1);
+        due.is("by a lesser PACE", x.ofThing(0, 9) & 15, 15);
     }
 
     /** Users of a THING of each KIND in VILLAGE 1; the others are at WAYS 2 (0), 2 (2), 4 (3). */

@@ -22,6 +22,7 @@ final class EdgesVillagesTest {
         pace();
         way();
         mend();
+        mendOfMany();
         due.end();
     }
 
@@ -313,5 +314,30 @@ final class EdgesVillagesTest {
         due.is("no more, from the other side", x.mend(1, 0, 0), 1);
         due.is("whole", x.way(0, 1), 6);
         due.is("none is", x.mend(0, 1, 0), 0);
+    }
+
+    private static void mendOfMany() {
+        due.says(9, "The WAY of two is MENDED (1), or not (0): what was so.");
+        EmptyLand x = new EmptyLand();
+        for (int i = 0; i < 8; i++) {
+            x.village(100 * i + i, 0, 0, 0);
+        }
+        boolean[][] mended = new boolean[8][8];
+        // Each step changes one WAY; by and by all are MENDED, and then not again.
+        for (int step = 0; step < 60; step++) {
+            int one = step * 5 % 8;
+            int other = (one + 1 + step * 3 % 7) % 8;
+            int is = step < 40 ? 1 : 0;
+            due.is("what was so", x.mend(one, other, is), mended[one][other] ? 1 : 0);
+            mended[one][other] = is == 1;
+            mended[other][one] = is == 1;
+            for (int i = 0; i < 7 && step % 12 == 11; i++) {
+                for (int j = i + 1; j < 8; j++) {
+                    int whole = 4 * (j - i);
+                    due.is("WAY of " + i + " and " + j, x.way(j, i), mended[i][j] ? whole / 2 : whole);
+                    due.is("WAY of " + j + " and " + i, x.way(i, j), mended[i][j] ? whole / 2 : whole);
+                }
+            }
+        }
     }
 }

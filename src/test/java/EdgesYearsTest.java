@@ -14,6 +14,7 @@ final class EdgesYearsTest {
         halfToHaven();
         halfOfEach();
         havenIsHeld();
+        havenIsHeldAheadOfTheRest();
         comes();
         comesHeld();
         agesCut();
@@ -162,6 +163,34 @@ final class EdgesYearsTest {
         y.become(1, 0, 0);
         y.years(1);
         due.is("99999 less 59999", y.people(0, 0), 40000);
+    }
+
+    private static void havenIsHeldAheadOfTheRest() {
+        due.says(0, "what would be more is held there).");
+        for (int sort = 0; sort < 3; sort++) {
+            int[] there = new int[3];
+            there[sort] = 99999;
+            EmptyLand x = Lands.still(0, there[0], there[1], there[2], 3030, there[0], there[1], there[2]);
+            x.thing(0, 0, 0, 0);
+            Due.text(x, GO, "100*(w=0)");
+            for (int rate = 1; rate < 4; rate++) {
+                x.rate(rate, 10);
+            }
+            // 49999 come to 99999: 10 of 100 of 99999 are 9999, not 14999.
+            int[] want = new int[3];
+            want[sort] = 90000;
+            if (sort < 2) {
+                want[sort + 1] = 9999;
+            }
+            x.years(1);
+            due.are("SORT " + sort, Lands.sorts(x, 0), want);
+        }
+        EmptyLand y = Lands.still(0, 99999, 0, 0, 3030, 99999, 0, 0);
+        y.thing(0, 0, 0, 0);
+        Due.text(y, GO, "100*(w=0)");
+        Due.text(y, COME, "20");
+        y.years(1);
+        due.are("20 of 100 of 99999 COME", Lands.sorts(y, 0), 99999, 19999, 0);
     }
 
     private static void comes() {
